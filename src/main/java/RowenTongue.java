@@ -203,7 +203,7 @@ public final class RowenTongue {
         }
         machine.plan();
         if (!machine.doWhole()) {
-            return true;
+            return machine.wasTooFar();
         }
         plain.tell(plainResult);
         machine.tell(finder.type(), machineResult);
@@ -916,14 +916,15 @@ public final class RowenTongue {
             return leftLacks || rightLacks ? LABEL_LACKED : 0;
         }
 
-        /** What both rows are followed by: nothing, unless both are open. */
+        /**
+         * What both rows are followed by: nothing, unless both are open. If one of the variables
+         * is comparable, what it is bound to becomes so, and the new one with that.
+         */
         private int newEnd(int a, int b) {
             if (a == NONE || b == NONE) {
                 return nothing();
             }
-            int end = rowVariable(lacks(a) | lacks(b));
-            put(end, COMPARABLE, isComparable(a) || isComparable(b) ? 1 : 0);
-            return end;
+            return rowVariable(lacks(a) | lacks(b));
         }
 
         /** Looks for the variable behind the other row's binding, which can have brought it in. */
@@ -1500,6 +1501,7 @@ public final class RowenTongue {
         final Cells toTell = new Cells();
         private final int most;
         private int taken = 0;
+        private boolean tooFar = false;
         private boolean stuck = false;
         private int spot = 0;
         private int names = 0;
@@ -1532,6 +1534,11 @@ public final class RowenTongue {
             return taken;
         }
 
+        /** A tree that has a type is too far or comes to a value; it never just stops. */
+        final boolean wasTooFar() {
+            return tooFar;
+        }
+
         final int value() {
             return value;
         }
@@ -1542,10 +1549,11 @@ public final class RowenTongue {
             heap.add(0);
             frames.clear();
             taken = 0;
+            tooFar = false;
             stuck = false;
             goTo(0, 0);
             boolean ended = false;
-            for (int turn = 0; !ended && !stuck && turn < MANY; turn++) {
+            for (int turn = 0; !ended && !tooFar && !stuck && turn < MANY; turn++) {
                 if (value == 0) {
                     begin();
                 } else if (frames.count() > 0) {
@@ -1612,7 +1620,7 @@ public final class RowenTongue {
 
         private boolean takesStep() {
             if (taken >= most) {
-                stuck = true;
+                tooFar = true;
                 return false;
             }
             taken++;
