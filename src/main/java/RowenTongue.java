@@ -537,7 +537,7 @@ public final class RowenTongue {
         }
     }
 
-    /** A row taken apart: its labels as bits, their types, and the variable behind them, or NONE. */
+    /** A row taken apart: its labels as bits, their types, and the variable behind, or NONE. */
     private static final class Row {
         private final int[] types = new int[LABELS];
         private int labels = 0;
@@ -1038,7 +1038,7 @@ public final class RowenTongue {
             return instances.at(fact(spot, INSTANCES) + number);
         }
 
-        /** 0 if the term has a type, or the error; a term that was looked at last stays as it is. */
+        /** 0 if the term has a type, or the error; the term looked at last is not looked at anew. */
         int look(int term) {
             if (term == looked) {
                 return error;
@@ -1482,7 +1482,7 @@ public final class RowenTongue {
         static final int RECORD_VALUE = 3;
         static final int VARIANT_VALUE = 4;
 
-        /** A value: its sort, then a number; or spot and names; or count and slots; or mark, value. */
+        /** A value: its sort, then a number; spot and names; count and slots; or mark, value. */
         static final int SORT = 0;
         static final int CONTENT = 1;
         static final int SLOTS = 2;
@@ -1975,7 +1975,7 @@ public final class RowenTongue {
             plans.add(end == NONE ? 0 : types.base(end) + before);
         }
 
-        /** The known number, and what was handed in, unless the row's variable is general nowhere. */
+        /** The known number, and what was handed in, if the row's variable is general somewhere. */
         private int placeAt(int plan, int names) {
             int place = plans.at(plan + PLAN_KNOWN);
             int owner = plans.at(plan + PLAN_OWNER);
