@@ -40,7 +40,7 @@ public final class RowenTongue {
     private static final int MOST_WEIGHT = 30;
     private static final int MOST_SIGNS = 300;
     private static final int MOST_STEPS = 1000;
-    private static final int MOST_MACHINE_STEPS = 4000;
+    private static final int MOST_MACHINE_STEPS = 3000;
     private static final int MOST_CELLS = 1 << 20;
     private static final int MANY = 1000000;
     private static final int NONE = -1;

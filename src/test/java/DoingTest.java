@@ -189,22 +189,14 @@ public final class DoingTest {
         d.dueDone(doubledTwice(d, 9), "too far 1000");
     }
 
-    private static int pairs(Due d, int times, int last) {
-        int term = last;
-        for (int time = 0; time < times; time++) {
-            term = d.give(d.name(1), term);
-        }
-        return term;
-    }
-
-    private static int doubling(Due d) {
-        return d.fun(0, d.record(d.name(0), d.name(0)));
-    }
-
     private static int doubledTwice(Due d, int times) {
         int value = d.name(2);
-        return d.let(1, doubling(d), d.let(2, pairs(d, times, d.number(0)),
-                d.same(value, value)));
+        int pair = d.fun(0, d.record(d.name(0), d.name(0)));
+        int whole = d.number(0);
+        for (int time = 0; time < times; time++) {
+            whole = d.give(d.name(1), whole);
+        }
+        return d.let(1, pair, d.let(2, whole, d.same(value, value)));
     }
 
     /** 8 + 2 + 8 * 123 steps, and 2 or 3 more for what is around it. */
@@ -232,22 +224,18 @@ public final class DoingTest {
         d.dueDone(d.same(d.record(zero), d.record(loop)), "too far 1000");
     }
 
-    private static String text(int times, String last) {
-        return times == 0 ? last : "{0:" + text(times - 1, last) + ",1:" + text(times - 1, last)
-                + "}";
-    }
-
     private static void longResults() {
         Due d = new Due();
-        int small = d.let(1, doubling(d), pairs(d, 4, d.number(-9)));
-        d.dueDone(small, text(4, "-9") + " " + (2 + 4 * 7 + 1));
-        int large = d.let(1, doubling(d), pairs(d, 6, d.number(-9)));
-        d.dueDone(large, text(6, "-9").substring(0, 300) + " " + (2 + 6 * 7 + 1));
-        Due.due("run", d.x.run(large), 300);
-        Due.due("the 300th sign", d.x.result(299), text(6, "-9").charAt(299));
-        Due.due("behind the 300th sign", (int) d.x.result(300), 32);
-        int largest = d.let(1, doubling(d), pairs(d, 11, d.number(-9)));
-        Due.due("run", d.x.run(largest), 300);
+        int small = d.doubled(4, d.number(-9));
+        d.dueDone(small, Due.doubledText(4, "-9") + " " + (2 + 4 * 7 + 1));
+        Due l = new Due();
+        int large = l.doubled(6, l.number(-9));
+        l.dueDone(large, Due.doubledText(6, "-9").substring(0, 300) + " " + (2 + 6 * 7 + 1));
+        Due.due("run", l.x.run(large), 300);
+        Due.due("the 300th sign", l.x.result(299), Due.doubledText(6, "-9").charAt(299));
+        Due.due("behind the 300th sign", (int) l.x.result(300), 32);
+        int largest = l.doubled(11, l.number(-9));
+        Due.due("run", l.x.run(largest), 300);
     }
 
     private static void latestResult() {

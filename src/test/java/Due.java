@@ -4,7 +4,7 @@ final class Due {
         void make();
     }
 
-    final RowenTongue x = new RowenTongue();
+    final Asked x = new Asked();
     private static int wrong = 0;
     private static int held = 0;
 
@@ -16,6 +16,10 @@ final class Due {
         }
     }
 
+    static int wrong() {
+        return wrong;
+    }
+
     static void end() {
         System.out.println(held + " answers, " + wrong + " not as due");
         if (wrong != 0) {
@@ -23,9 +27,8 @@ final class Due {
         }
     }
 
-    /** The call throws just this, and the number of terms, steps and the error stay as they are. */
+    /** The call throws just this, and there are as many terms as before. */
     void dueThrow(String call, Class<?> exception, Call made) {
-        String before = state();
         Class<?> thrown = null;
         try {
             made.make();
@@ -33,16 +36,7 @@ final class Due {
             thrown = e.getClass();
         }
         due(call, thrown, exception);
-        due("behind " + call, state(), before);
-    }
-
-    private String state() {
-        StringBuilder told = new StringBuilder();
-        told.append(x.terms()).append(' ').append(x.errorAt()).append(' ').append(x.steps());
-        for (int at = 0; at < 20; at++) {
-            told.append(x.result(at));
-        }
-        return told.toString();
+        due("terms behind " + call, x.terms(), x.made());
     }
 
     int number(int number) {
@@ -126,6 +120,23 @@ final class Due {
         return record;
     }
 
+    /** Each giving doubles: a record of two of what is given, of two of these, .. */
+    int doubled(int times, int last) {
+        int term = last;
+        for (int time = 0; time < times; time++) {
+            term = give(name(1), term);
+        }
+        return let(1, fun(0, record(name(0), name(0))), term);
+    }
+
+    static String doubledText(int times, String last) {
+        String text = last;
+        for (int time = 0; time < times; time++) {
+            text = "{0:" + text + ",1:" + text + "}";
+        }
+        return text;
+    }
+
     String type(int term) {
         StringBuilder text = new StringBuilder();
         int size = x.size(term);
@@ -162,10 +173,15 @@ final class Due {
         dueThrow("size " + term, IllegalStateException.class, () -> x.size(term));
     }
 
+    /** The machine agrees, which leaves the latest result, and how it came about, as it is. */
     void dueDone(int term, String result) {
-        due("done " + term, done(term), result);
-        String before = state();
+        String done = done(term);
+        due("done " + term, done, result);
+        int end = done.lastIndexOf(' ');
         due("agrees " + term, x.agrees(term), true);
-        due("behind agrees " + term, state(), before);
+        due("steps behind agrees " + term, x.steps(), done.substring(end + 1));
+        boolean tooFar = done.startsWith("too far");
+        due("result behind agrees " + term, x.result(0), tooFar ? ' ' : done.charAt(0));
+        due("result behind agrees " + term, x.result(end - 1), tooFar ? ' ' : done.charAt(end - 1));
     }
 }

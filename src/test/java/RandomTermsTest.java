@@ -3,10 +3,13 @@ import java.util.List;
 
 /** Random terms, the same ones each time: every answer is held against that of the model. */
 public final class RandomTermsTest {
-    private static final int OBJECTS = 1500;
+    private static final int OBJECTS = 3000;
+    /** An object is done with as soon as a term more could take it beyond its 512 calls. */
+    private static final int CALLS_OF_ONE_TERM = 100;
+    private static final int SIGNS_READ = 20;
+    private static final int PLACES_ASKED = 10;
 
     private static long seed = 20261119L;
-    private static int wrong = 0;
     private static final int[] seen = new int[64];
     private static final int[] errors = new int[8];
 
@@ -16,10 +19,7 @@ public final class RandomTermsTest {
     }
 
     private static void due(String call, Object got, Object want) {
-        if (!String.valueOf(got).equals(String.valueOf(want))) {
-            wrong++;
-            System.out.println(call + " answered " + got + ", due is " + want);
-        }
+        Due.due(call, got, want);
     }
 
     // ---- trees of terms: names are known as to what they may stand for, so that many have types
@@ -234,7 +234,7 @@ public final class RandomTermsTest {
         return part < term.parts.length ? term.parts[part].number : random(300) - 100;
     }
 
-    private static int make(RowenTongue x, Model.Term term) {
+    private static int make(Asked x, Model.Term term) {
         switch (term.kind) {
             case 0:
             case 1:
@@ -254,14 +254,14 @@ public final class RandomTermsTest {
         }
     }
 
-    private static void add(RowenTongue x, Model model, Model.Term term) {
+    private static void add(Asked x, Model model, Model.Term term) {
         due("making a term", make(x, term), term.number);
         model.terms.add(term);
         seen[term.kind]++;
     }
 
     /** Makes all terms of a tree; one that was made before is often used again. */
-    private static Model.Term addAll(RowenTongue x, Model model, Model.Term tree) {
+    private static Model.Term addAll(Asked x, Model model, Model.Term tree) {
         Model.Term[] parts = new Model.Term[tree.parts.length];
         for (int i = 0; i < parts.length; i++) {
             parts[i] = addAll(x, model, tree.parts[i]);
@@ -290,7 +290,7 @@ public final class RandomTermsTest {
         return told.append(')').toString();
     }
 
-    private static void holdTypes(RowenTongue x, Model model, Model.Term term) {
+    private static void holdTypes(Asked x, Model model, Model.Term term) {
         int at = term.number;
         model.check(term);
         String name = describe(term);
@@ -310,36 +310,68 @@ public final class RandomTermsTest {
         if (model.error != 0) {
             return;
         }
-        StringBuilder text = new StringBuilder();
-        for (int sign = 0; sign < x.size(at); sign++) {
-            text.append(x.sign(at, sign));
+        due("size " + name, x.size(at), model.text.length());
+        for (int number = 0; number < Math.min(SIGNS_READ, model.text.length()); number++) {
+            int sign = readAt(number, model.text);
+            due("sign " + sign + " " + name, x.sign(at, sign), model.text.charAt(sign));
         }
-        due("type " + name, text, model.text);
-        due("behind type " + name, (int) x.sign(at, text.length()), 32);
-        for (Model.Term other : model.terms) {
+        due("behind type " + name, (int) x.sign(at, model.text.length()), 32);
+        holdPlaces(x, model, term);
+        holdAlike(x, model, term);
+    }
+
+    /** Short texts are read sign by sign, long ones here and there, and at their end. */
+    private static int readAt(int number, String text) {
+        if (text.length() <= SIGNS_READ) {
+            return number;
+        }
+        return number == 0 ? text.length() - 1 : random(text.length());
+    }
+
+    private static void holdPlaces(Asked x, Model model, Model.Term term) {
+        int left = PLACES_ASKED;
+        int from = random(model.terms.size());
+        for (int number = 0; number < model.terms.size() && left > 0; number++) {
+            Model.Term other = model.terms.get((from + number) % model.terms.size());
             if (other.kind == 4 || other.kind == 5) {
                 int most = model.handed.getOrDefault(other.number, -1);
-                due("places " + other.number + " " + name, x.places(other.number, at), most);
+                due("places " + other.number + " " + describe(term),
+                        x.places(other.number, term.number), most);
                 seen[32] += most > 0 ? 1 : 0;
+                left--;
             }
         }
     }
 
-    private static void holdDoing(RowenTongue x, Model model, Model.Term term) {
+    private static void holdAlike(Asked x, Model model, Model.Term term) {
+        String text = model.text;
+        Model.Term other = model.terms.get(random(model.terms.size()));
+        model.check(other);
+        if (model.error == 0) {
+            due("areAlike " + describe(term) + " " + describe(other),
+                    x.areAlike(term.number, other.number), text.equals(model.text));
+            seen[36] += text.equals(model.text) && other != term ? 1 : 0;
+        }
+        model.check(term);
+    }
+
+    private static void holdDoing(Asked x, Model model, Model.Term term) {
         int at = term.number;
         String name = describe(term);
         model.run(term);
-        boolean agreed = random(2) == 0 && x.agrees(at);
+        if (random(2) == 0) {
+            due("agrees ahead of run " + name, x.agrees(at), true);
+        }
         int run = x.run(at);
         due("run " + name, run, model.result == null ? -1 : model.result.length());
         due("steps " + name, x.steps(), model.steps);
-        StringBuilder text = new StringBuilder();
-        for (int sign = 0; sign < run; sign++) {
-            text.append(x.result(sign));
+        String text = model.result == null ? "" : model.result;
+        for (int number = 0; number < Math.min(SIGNS_READ, text.length()); number++) {
+            int sign = readAt(number, text);
+            due("result " + sign + " " + name, x.result(sign), text.charAt(sign));
         }
-        due("result " + name, text, model.result == null ? "" : model.result);
         due("behind result " + name, (int) x.result(text.length()), 32);
-        due("agrees " + name, agreed | x.agrees(at), true);
+        due("agrees " + name, x.agrees(at), true);
         due("steps behind agrees " + name, x.steps(), model.steps);
         seen[33] += model.result == null ? 1 : 0;
         seen[34] += model.steps > 60 ? 1 : 0;
@@ -347,7 +379,7 @@ public final class RandomTermsTest {
     }
 
     private static void oneObject() {
-        RowenTongue x = new RowenTongue();
+        Asked x = new Asked();
         Model model = new Model();
         names = 1 + random(4);
         labels = 1 + random(random(5) == 0 ? 10 : 4);
@@ -356,7 +388,8 @@ public final class RandomTermsTest {
             if (tree.weight > 30) {
                 continue;
             }
-            if (model.terms.size() + tree.weight > 120) {
+            int calls = x.calls() + tree.weight + CALLS_OF_ONE_TERM + 1;
+            if (model.terms.size() + tree.weight > 120 || calls > Asked.MOST_CALLS) {
                 break;
             }
             model.check(tree);
@@ -366,7 +399,9 @@ public final class RandomTermsTest {
             Model.Term term = addAll(x, model, tree);
             hold(x, model, term);
             for (int some = random(4); some > 0; some--) {
-                hold(x, model, model.terms.get(random(model.terms.size())));
+                if (x.calls() + CALLS_OF_ONE_TERM < Asked.MOST_CALLS) {
+                    hold(x, model, model.terms.get(random(model.terms.size())));
+                }
             }
         }
         due("terms", x.terms(), model.terms.size());
@@ -378,7 +413,7 @@ public final class RandomTermsTest {
         return scope;
     }
 
-    private static void hold(RowenTongue x, Model model, Model.Term term) {
+    private static void hold(Asked x, Model model, Model.Term term) {
         holdTypes(x, model, term);
         if (model.error == 0) {
             holdDoing(x, model, term);
@@ -388,14 +423,12 @@ public final class RandomTermsTest {
     public static void main(String[] args) {
         int objects = args.length > 0 ? Integer.parseInt(args[0]) : OBJECTS;
         seed += args.length > 1 ? Long.parseLong(args[1]) : 0;
-        for (int object = 0; object < objects && wrong < 20; object++) {
+        for (int object = 0; object < objects && Due.wrong() < 20; object++) {
             oneObject();
         }
         System.out.println("errors " + java.util.Arrays.toString(errors));
-        System.out.println("places, too far, long runs, long results: " + seen[32] + " " + seen[33]
-                + " " + seen[34] + " " + seen[35]);
-        if (wrong != 0) {
-            System.exit(1);
-        }
+        System.out.println("places, too far, long runs, long results, alike: " + seen[32] + " "
+                + seen[33] + " " + seen[34] + " " + seen[35] + " " + seen[36]);
+        Due.end();
     }
 }

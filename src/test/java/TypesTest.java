@@ -330,36 +330,22 @@ public final class TypesTest {
         Due.due("errorAt behind 7", d.x.errorAt(), -1);
     }
 
-    /** Each giving doubles: a record of two, of two, .. */
-    private static int doubled(Due d, int times, int last) {
-        int term = last;
-        for (int time = 0; time < times; time++) {
-            term = d.give(d.name(1), term);
-        }
-        return d.let(1, d.fun(0, d.record(d.name(0), d.name(0))), term);
-    }
-
-    private static String text(int times, String last) {
-        return times == 0 ? last : "{0:" + text(times - 1, last) + ",1:" + text(times - 1, last)
-                + "}";
-    }
-
     private static void longTexts() {
         Due d = new Due();
-        d.dueType(doubled(d, 4, d.number(1)), text(4, "N"));
-        Due.due("a short one", text(4, "N").length(), 121);
-        int long5 = doubled(d, 6, d.number(1));
-        d.dueType(long5, text(6, "N").substring(0, 300));
-        Due.due("the last sign", d.x.sign(long5, 299), text(6, "N").charAt(299));
-        Due.due("behind the last sign", (int) d.x.sign(long5, 300), 32);
-        int longest = doubled(d, 11, d.number(1));
-        Due.due("the longest", d.x.size(longest), 300);
-        Due.due("alike up to the 300th sign", d.x.areAlike(long5, longest), false);
-        int other = doubled(d, 11, d.empty());
-        Due.due("not alike", d.x.areAlike(longest, other), false);
-        // 5 labels of 59 signs with their labels, and so 299 signs, or 300, or more
-        int wide = doubled(d, 4, d.fun(0, d.name(0)));
-        d.dueType(wide, text(4, "(a>a)"));
+        d.dueType(d.doubled(4, d.number(1)), Due.doubledText(4, "N"));
+        Due.due("a short one", Due.doubledText(4, "N").length(), 121);
+        int wide = d.doubled(4, d.fun(0, d.name(0)));
+        d.dueType(wide, Due.doubledText(4, "(a>a)"));
+        Due l = new Due();
+        int large = l.doubled(6, l.number(1));
+        l.dueType(large, Due.doubledText(6, "N").substring(0, 300));
+        Due.due("the last sign", l.x.sign(large, 299), Due.doubledText(6, "N").charAt(299));
+        Due.due("behind the last sign", (int) l.x.sign(large, 300), 32);
+        int largest = l.doubled(11, l.number(1));
+        Due.due("the largest", l.x.size(largest), 300);
+        Due.due("alike up to the 300th sign", l.x.areAlike(large, largest), false);
+        int other = l.doubled(11, l.empty());
+        Due.due("not alike", l.x.areAlike(largest, other), false);
     }
 
     /** Functions of eight variables, in a record of records: the 53rd variable is told by ?. */
@@ -372,6 +358,15 @@ public final class TypesTest {
         int few = d.let(0, fun, d.record(d.name(0), d.name(0), d.name(0)));
         d.dueType(few, "{0:(a>(b>(c>(d>(e>(f>(g>(h>N)))))))),1:(i>(j>(k>(l>(m>(n>(o>(p>N)))))))),"
                 + "2:(q>(r>(s>(t>(u>(v>(w>(x>N))))))))}");
+        manyMoreVariables();
+    }
+
+    private static void manyMoreVariables() {
+        Due d = new Due();
+        int fun = d.number(0);
+        for (int name = 7; name >= 0; name--) {
+            fun = d.fun(name, fun);
+        }
         int many = d.let(0, fun, d.let(1, d.record(d.name(0), d.name(0), d.name(0)),
                 d.record(d.name(1), d.name(1), d.name(1))));
         StringBuilder text = new StringBuilder("{");
