@@ -40,7 +40,7 @@ public final class RowenTongue {
     private static final int MOST_WEIGHT = 30;
     private static final int MOST_SIGNS = 300;
     private static final int MOST_STEPS = 1000;
-    private static final int MOST_MACHINE_STEPS = 3000;
+    private static final int MOST_MACHINE_STEPS = 2500;
     private static final int MOST_CELLS = 1 << 20;
     private static final int MANY = 1000000;
     private static final int NONE = -1;
@@ -132,8 +132,7 @@ public final class RowenTongue {
     public int check(int term) throws IndexOutOfBoundsException {
         requireKnown(term);
         int error = finder.look(term);
-        boolean told = error != 0 && error != CASES_ALONE;
-        latestErrorAt = told ? finder.faultAt() : NONE;
+        latestErrorAt = finder.faultAt();
         return error;
     }
 
@@ -674,11 +673,11 @@ public final class RowenTongue {
         }
 
         private int at(int node, int field) {
-            return node >= 0 && node + WIDTH <= used ? cell[node + field] : 0;
+            return node >= 0 && node <= used - WIDTH ? cell[node + field] : 0;
         }
 
         private void put(int node, int field, int value) {
-            if (node >= 0 && node + WIDTH <= used) {
+            if (node >= 0 && node <= used - WIDTH) {
                 cell[node + field] = value;
             }
         }
@@ -686,7 +685,7 @@ public final class RowenTongue {
         /** What a node is, all links followed. */
         int end(int node) {
             int last = node;
-            for (int turn = 0; last >= 0 && last + WIDTH <= used && turn < MANY; turn++) {
+            for (int turn = 0; last >= 0 && last <= used - WIDTH && turn < MANY; turn++) {
                 if (cell[last + LINK] == NONE) {
                     return last;
                 }
@@ -1018,6 +1017,7 @@ public final class RowenTongue {
             this.types = types;
         }
 
+        /** NONE as well, if there was no error, or the term is one of cases. */
         int faultAt() {
             return faultAt;
         }

@@ -31,6 +31,8 @@ public final class DoingEdgesTest {
         blankBehindTheEnd();
         noSuchSign();
         namesStandForTheirPlaces();
+        eachRowAndEachLabel();
+        placesOfNamesAround();
         leastAndGreatestLabels();
         restCountsAnew();
         generalNowhere();
@@ -517,6 +519,43 @@ public final class DoingEdgesTest {
                 "{0:[5:1],1:[5:1],2:[5:1]}");
     }
 
+    /** "for each variable of rows .., and each label that it must lack, a place is handed in". */
+    private static void eachRowAndEachLabel() {
+        Due d = new Due();
+        int x = d.name(0);
+        int y = d.name(1);
+        int both = d.plus(d.plus(d.of(3, x), d.of(7, x)), d.of(8, y));
+        int fun = d.fun(0, d.fun(1, both));
+        int first = d.empty();
+        int second = d.empty();
+        for (int label : new int[] {3, 5, 7}) {
+            first = d.with(label, d.number(label), first);
+        }
+        for (int label : new int[] {1, 2, 8}) {
+            second = d.with(label, d.number(10 * label), second);
+        }
+        int use = d.let(2, fun, d.give(d.give(d.name(2), first), second));
+        dueAgrees(d, use, "90");
+        Due.due("places", d.x.places(use, use), 3);
+    }
+
+    /** "e is done with these there": e of an inner LET stands by the places of the outer one too. */
+    private static void placesOfNamesAround() {
+        Due d = new Due();
+        int inner = d.fun(1, d.plus(d.of(3, d.name(0)), d.of(5, d.name(1))));
+        int low = d.with(5, d.number(1), d.empty());
+        int given = d.let(2, inner, d.give(d.name(2), low));
+        int record = d.with(2, d.number(20), d.with(3, d.number(30), d.empty()));
+        int outer = d.let(4, d.fun(0, given), d.give(d.name(4), record));
+        dueAgrees(d, outer, "31");
+        Due.due("places of the inner name", d.x.places(given, outer), 1);
+        Due.due("places of the outer name", d.x.places(outer, outer), 1);
+        int high = d.with(4, d.number(2), d.with(5, d.number(3), d.empty()));
+        int other = d.let(2, inner, d.give(d.name(2), high));
+        int three = d.with(3, d.number(40), d.empty());
+        dueAgrees(d, d.let(4, d.fun(0, other), d.give(d.name(4), three)), "43");
+    }
+
     /** "go by how many labels of the row that lacks the label are less than it": of 0 none are. */
     private static void leastAndGreatestLabels() {
         for (int label = 0; label < 10; label++) {
@@ -606,8 +645,8 @@ public final class DoingEdgesTest {
     }
 
     /**
-     * agrees: "true as well, if .. the machine .. has too much to do": what takes 800 steps is done
-     * for four places here, two of the inner name for each two of the outer one.
+     * agrees: "true as well, if .. the machine .. has too much to do": what takes it 700 steps is
+     * done for four places here, two of the inner name for each two of the outer one.
      */
     private static void agreesIfTooMuchToDo() {
         Due d = new Due();

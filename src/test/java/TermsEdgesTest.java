@@ -34,6 +34,7 @@ public final class TermsEdgesTest {
         weightOfThreeParts();
         weightOfCases();
         weightOfPartsTogether();
+        weightCountsOn();
         casesNowhereElse();
         casesInTheirPlaces();
         termsTellsHowMany();
@@ -462,6 +463,55 @@ public final class TermsEdgesTest {
         int eleven = d.plus(seven, three);
         int fourteen = d.choose(one, eleven, one);
         d.dueDone(d.plus(fifteen, fourteen), "14 " + (1 + 15 + 1 + 1 + 11));
+    }
+
+    private static int weighing29(Due d, int way) {
+        switch (way) {
+            case 0:
+                return d.fun(0, heavy(d, 28));
+            case 1:
+                return d.let(0, heavy(d, 14), heavy(d, 14));
+            case 2:
+                return d.rec(0, heavy(d, 13), heavy(d, 15));
+            case 3:
+                return d.with(0, heavy(d, 15), heavy(d, 13));
+            case 4:
+                return d.without(0, heavy(d, 28));
+            case 5:
+                return d.as(0, heavy(d, 28));
+            case 6:
+                return d.give(heavy(d, 13), heavy(d, 15));
+            case 7:
+                return d.plus(heavy(d, 15), heavy(d, 13));
+            case 8:
+                return d.same(heavy(d, 14), heavy(d, 14));
+            case 9:
+                return d.choose(heavy(d, 9), heavy(d, 9), heavy(d, 10));
+            case 10:
+                return d.match(heavy(d, 14), heavyCases(d, 14));
+            default:
+                return d.match(heavy(d, 14), d.rest(0, heavy(d, 13)));
+        }
+    }
+
+    /** "of a weight, 1 more than that of those together": of each kind it counts in what is next. */
+    private static void weightCountsOn() {
+        for (int way = 0; way <= 11; way++) {
+            Due d = new Due();
+            int long29 = weighing29(d, way);
+            int long30 = d.of(0, long29);
+            Due.due("30 around " + way, long30, d.x.terms() - 1);
+            d.dueThrow("31 around " + way, STATE, () -> d.of(0, long30));
+            d.dueThrow("31 around " + way, STATE, () -> d.plus(long29, 0));
+        }
+        Due d = new Due();
+        int one = d.number(1);
+        int cases29 = d.oneCase(0, 0, heavy(d, 13), heavyCases(d, 15));
+        int next = d.x.terms();
+        d.dueThrow("31 around a CASE", STATE, () -> d.match(one, cases29));
+        int cases28 = d.oneCase(0, 0, heavy(d, 13), heavyCases(d, 14));
+        Due.due("30 around a CASE", d.match(one, cases28), d.x.made() - 1);
+        Due.due("terms", d.x.terms() > next, true);
     }
 
     private static void refusesAsTerm(Due d, int cases) {

@@ -404,7 +404,7 @@ public final class TextsEdgesTest {
         int x = d.name(0);
         int one = d.number(1);
         int id = d.fun(0, x);
-        int[] unlike = {one, d.empty(), id, d.fun(0, one), d.fun(0, d.same(x, x)),
+        int[] unlike = {one, d.rec(0, x, x), d.empty(), id, d.fun(0, one), d.fun(0, d.same(x, x)),
             d.fun(0, d.of(0, x)), d.fun(0, d.of(1, x)), d.as(0, one), d.as(1, one),
             d.with(0, one, d.empty()), d.fun(0, d.without(3, d.with(3, one, x))),
             d.fun(0, d.without(4, d.with(4, one, x)))};
@@ -416,7 +416,7 @@ public final class TextsEdgesTest {
         }
         Due.due("areAlike", d.x.areAlike(one, d.number(-99)), true);
         Due.due("areAlike", d.x.areAlike(id, d.fun(7, d.name(7))), true);
-        Due.due("areAlike", d.x.areAlike(d.fun(0, d.of(0, x)), unlike[5]), true);
+        Due.due("areAlike", d.x.areAlike(d.fun(0, d.of(0, x)), unlike[6]), true);
     }
 
     /** areAlike: of texts that end behind 300 signs: unlike in the 300th, or behind it. */

@@ -163,6 +163,8 @@ public final class TypesEdgesTest {
         d.dueError(d.match(d.as(1, d.fun(0, x)), d.oneCase(1, 1, both, d.noCase())), 2, emptied);
         d.dueError(d.fun(0, d.match(x, d.oneCase(1, 0, d.let(1, x, both), d.noCase()))), 2,
                 emptied);
+        // the type of any name counts, not that of the innermost one alone
+        d.dueError(d.fun(0, d.fun(3, d.fun(4, d.let(1, x, both)))), 2, emptied);
         // the part that is not x's is general
         int pair = d.let(1, d.fun(2, d.record(x, d.name(2))), both);
         d.dueType(d.fun(0, pair), "(a>{0:{0:a,1:N},1:{0:a,1:{}}})");
