@@ -1038,7 +1038,7 @@ public final class RowenTongue {
             return instances.at(fact(spot, INSTANCES) + number);
         }
 
-        /** 0 if the term has a type, or the error; the term looked at last is not looked at anew. */
+        /** 0 if the term has a type, or the error; the latest term is not looked at anew. */
         int look(int term) {
             if (term == looked) {
                 return error;

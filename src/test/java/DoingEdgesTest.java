@@ -251,7 +251,6 @@ public final class DoingEdgesTest {
         Due d = new Due();
         int x = d.name(0);
         int one = d.number(1);
-        int none = d.noCase();
         d.dueDone(one, "1 1");
         d.dueDone(d.empty(), "{} 1");
         d.dueDone(d.fun(0, x), "F 1");
@@ -272,7 +271,6 @@ public final class DoingEdgesTest {
         e.dueDone(e.match(variant, e.oneCase(3, 0, y, e.noCase())), "1 4");
         int last = e.oneCase(3, 0, y, e.noCase());
         e.dueDone(e.match(variant, e.oneCase(1, 0, y, e.oneCase(2, 0, y, last))), "1 4");
-        Due.due("cases are no step", none, 2);
     }
 
     /** "What is done again, as a function is given something again, is a step again." */

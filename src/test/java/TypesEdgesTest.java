@@ -3,9 +3,6 @@
  * boundary case. Each has a test of its own, with the sentence above it.
  */
 public final class TypesEdgesTest {
-    private static final Class<?> INDEX = IndexOutOfBoundsException.class;
-    private static final Class<?> STATE = IllegalStateException.class;
-
     public static void main(String[] args) {
         innermostName();
         partsInWhichANameHolds();
